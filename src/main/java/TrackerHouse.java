@@ -4,6 +4,11 @@ import java.util.NoSuchElementException;
 public final class TrackerHouse {
     public static final int NONE = -1;
 
+    private static final int LEAST_INT = 0x80000000;
+    private static final int MOST_INT = 0x7FFFFFFF;
+    private static final long LEAST_LONG = 0x8000000000000000L;
+    private static final long MOST_LONG = 0x7FFFFFFFFFFFFFFFL;
+
     private static final int TAPE_BYTES = 6000;
     /** What the largest module packs to: the head, 16 full INSTRUMENTS, 16 full PARTS, a full ORDER. */
     private static final int CONTAINER_BYTES = 2 + 16 * 587 + 16 * 929 + 33;
@@ -293,18 +298,18 @@ public final class TrackerHouse {
 
         static boolean mayBeCell(long bits, boolean narrow) {
             return narrow
-                ? (bits & Integer.MAX_VALUE) <= LARGEST_NARROW_BITS
-                : (bits & Long.MAX_VALUE) <= LARGEST_WIDE_BITS;
+                ? (bits & MOST_INT) <= LARGEST_NARROW_BITS
+                : (bits & MOST_LONG) <= LARGEST_WIDE_BITS;
         }
 
         static boolean mayBeSwell(int bits) {
-            return bits >= 0 && bits <= ONE_BITS || bits == Integer.MIN_VALUE;
+            return bits >= 0 && bits <= ONE_BITS || bits == LEAST_INT;
         }
 
         static double valueOf(long bits, boolean narrow) {
             int digits = narrow ? 23 : 52;
             int mostHalvings = narrow ? 149 : 1074;
-            long magnitude = bits & (narrow ? Integer.MAX_VALUE : Long.MAX_VALUE);
+            long magnitude = bits & (narrow ? MOST_INT : MOST_LONG);
             int exponent = (int) (magnitude >> digits);
             long top = 1L << digits;
             double value = exponent == 0 ? magnitude : magnitude % top + top;
@@ -337,7 +342,7 @@ public final class TrackerHouse {
             if (!negative) {
                 return bits;
             }
-            return narrow ? (int) bits | Integer.MIN_VALUE : bits | Long.MIN_VALUE;
+            return narrow ? (int) bits | LEAST_INT : bits | LEAST_LONG;
         }
 
         static double held(double value) {
@@ -430,7 +435,7 @@ public final class TrackerHouse {
                     zeroIsNegative = bits < 0;
                     break;
                 case FLIP:
-                    return bits ^ (narrow ? Integer.MIN_VALUE : Long.MIN_VALUE);
+                    return bits ^ (narrow ? LEAST_INT : LEAST_LONG);
                 default:
                     made = sum(old, effect == ADD ? a / 256.0 : effect == BUMP ? 1 : -1);
                     break;
@@ -951,7 +956,7 @@ public final class TrackerHouse {
             Instrument own = song.instrumentAt(voice.instrument);
             Wave wave = song.waveOf(own);
             int i = voice.position >> 8;
-            if (wave == null || i >= wave.size) {
+            if (own == null || wave == null || i >= wave.size) {
                 refuse(wave == null ? NO_WAVE : BEYOND_WAVE, v);
                 // the refusal that ends the song ends the tick there, ahead of what else it would do
                 if (!over) {
@@ -1048,7 +1053,7 @@ public final class TrackerHouse {
             if (kind == NONE) {
                 return fail(2);
             }
-            int count = takeNumbers(Integer.MIN_VALUE, Integer.MAX_VALUE, CELLS);
+            int count = takeNumbers(LEAST_INT, MOST_INT, CELLS);
             Wave wave = song.ownWave(k, kind);
             wave.size = count;
             for (int i = 0; i < count; i++) {
@@ -1179,7 +1184,7 @@ public final class TrackerHouse {
                 return fail(2);
             }
             song.effects[note] = effect;
-            if (!takeNumber(Integer.MIN_VALUE, Integer.MAX_VALUE)) {
+            if (!takeNumber(LEAST_INT, MOST_INT)) {
                 return false;
             }
             song.arguments[note] = value;
