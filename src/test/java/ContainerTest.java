@@ -63,7 +63,7 @@ public final class ContainerTest {
     private static void roundTrip() {
         byte[] container = Check.join(HEAD,
             Check.row(15, 6, 2), Check.big(Double.doubleToLongBits(-1000000.0), 8), Check.big(Long.MIN_VALUE, 8),
-            Check.row(32, 1, 2, 3, 4, 16), new byte[64], Check.row(63, 64),
+            Check.row(32, 0x81, 0x82, 0x83, 0x84, 16), new byte[64], Check.row(63, 64),
             Check.row(1, 5, 3), Check.big(0x80000000L, 4), Check.big(1, 4), Check.big(0xC9742400L, 4), new byte[14],
             Check.row(32), Check.join(new byte[31], Check.row(4), new byte[28]), new byte[15], Check.row(1, 15));
         TrackerHouse house = Check.house(container);
@@ -72,10 +72,16 @@ public final class ContainerTest {
         Check.due("-0 of 4 bytes", Check.cell(house, 1, 0), Integer.MIN_VALUE);
         Check.due("least of 4 bytes", Check.cell(house, 1, 1), 1);
         Check.due("float", Check.cell(house, 1, 2), Float.floatToIntBits(-1000000f));
+        Check.due("truth 0", house.gate(0, 0), 1);
         Check.due("truth 7", house.gate(0, 7), 1);
         Check.due("truth 6", house.gate(0, 6), 0);
         Check.due("truth 29", house.gate(0, 29), 1);
         Check.due("same", Arrays.equals(Check.packed(house), container), true);
+        // nothing of it stays in the next one
+        byte[] empty = Check.join(HEAD, new byte[16], NO_PARTS, ORDER);
+        Check.due("read", Check.read(house, empty), 0);
+        Check.due("empty", Arrays.equals(Check.packed(house), empty), true);
+        Check.due("no wave", house.instrument(0, 0), -1);
     }
 
     private static void faults() {

@@ -255,7 +255,9 @@ public final class EffectTest {
         for (int i = 0; i < 4; i++) {
             Check.due("swap " + i, Check.cell(house, 0, i), due[i]);
         }
-        Check.due("swap 0", Check.cell(played(TONE, "-1 0 swap 0", 1), 0, 0), 1);
+        house = played(TONE, "-1 0 swap 0", 1);
+        Check.due("swap 0", Check.cell(house, 0, 0), 1);
+        Check.due("swap 0", house.look(7), 0);
         refused("no instrument", played(TONE, "-1 -1 swap 0", 1), 1);
         refused("no wave", played(TONE, "-1 1 swap 0", 1), 2);
         refused("beyond", played(TONE, "-1 0 swap 4", 1), 3);

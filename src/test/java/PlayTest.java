@@ -168,6 +168,9 @@ public final class PlayTest {
         voice("other instrument", house, 1, 0, 0, 256, 64, 7, 1, 0);
         Check.play(house, 6);
         voice("struck anew", house, 0, 1, 64, 16, 64, 1, 1, 0);
+        house = Check.house("wave 0 byte 1 2 3 4; part 0 -1 0 off 2 . 12 -1 none 0; order 0;");
+        Check.play(house, 7);
+        voice("from the first cell", house, 0, 0, 4 * 32, 32, 64, 1, 1, 0);
     }
 
     private static void pitches() {
@@ -261,6 +264,9 @@ public final class PlayTest {
             Check.due("gate at " + t, house.frame(4 * t), gated[t]);
             Check.due("gate at " + t, house.frame(4 * t + 3), gated[t]);
         }
+        house = Check.house("wave 0 short 1001; loop 0 0 1; gate 0 0; part 0 48 0 none 0; order 0;");
+        Check.play(house, 1);
+        Check.due("gate of one", house.frame(0), 0);
         house = Check.house("wave 0 short -1001; loop 0 0 1; swell 0 64 32 0 1; part 0 48 0 none 0; order 0;");
         Check.play(house, 6);
         int[] swelled = {-1001, -500, 0, -15, -15, -15};

@@ -138,6 +138,13 @@ public final class TextTest {
         fault(1, "order |\u00e9");
         fault(1, "order |- 1;");
         fault(1, "order |--1;");
+        fault(1, "order |+1;");
+        fault(1, "order |/;");
+        fault(1, "order |:;");
+        fault(1, "|{");
+        fault(1, "|`");
+        fault(2, "|z");
+        fault(2, "|a");
         fault(1, "order 0|-;");
         fault(1, "order |0000000000;");
         fault(1, "order |-1234567890;");
@@ -197,6 +204,7 @@ public final class TextTest {
         fault(3, "part 0 0 |-2 none 0;");
         fault(3, "order 0 |16;");
         fault(3, "order |-1;");
+        Check.house("order 15; gate 15 1; swell 15 1; loop 15 0 1; wave 15 byte 1;");
         Check.house("order 15; part 15 95 15 none 999999999, -2 -1 swap -999999999;");
     }
 
