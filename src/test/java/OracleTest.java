@@ -50,6 +50,7 @@ public final class OracleTest {
                 }
             }
             compareAll();
+            strayCalls();
             for (int p = random.nextInt(6); p > 0; p--) {
                 int n = random.nextInt(4) == 0 ? random.nextInt(70) - 2 : 1 + random.nextInt(20);
                 Check.due(name + "play " + n, Check.play(house, n), oracle.play(n));
@@ -261,6 +262,35 @@ public final class OracleTest {
     }
 
     // ---- answers
+
+    private int anyInt() {
+        return switch (random.nextInt(4)) {
+            case 0 -> Integer.MIN_VALUE + random.nextInt(2);
+            case 1 -> Integer.MAX_VALUE - random.nextInt(2);
+            case 2 -> random.nextInt();
+            default -> random.nextInt(20) - 2;
+        };
+    }
+
+    /** Calls with arguments from all over, none of which may throw but as promised. */
+    private void strayCalls() {
+        for (int i = 0; i < 5; i++) {
+            int a = anyInt();
+            int b = anyInt();
+            same("look", a, 0, house.look(a), oracle.look(a));
+            same("voice", a, b, house.voice(a, b), oracle.voice(a, b));
+            same("instrument", a, b, house.instrument(a, b), oracle.instrument(a, b));
+            same("cell", a, b, Check.cell(house, a, b), oracle.cell(a, b));
+            same("gate", a, b, house.gate(a, b), oracle.gate(a, b));
+            same("swell", a, b, house.swell(a, b), oracle.swell(a, b));
+            same("frame", a, 0, house.frame(a), oracle.frame(a));
+            same("event", a, 0, house.event(a), oracle.event(a));
+            same("packed", a, 0, house.packed(a), oracle.packed(a));
+            same("end", a, 0, house.end(a) ? 1 : 0, oracle.end(a) ? 1 : 0);
+            same("play", a, 0, Check.play(house, a), oracle.play(a));
+            same("mute", a, 0, house.mute(a, false) ? 1 : 0, oracle.mute(a, false) ? 1 : 0);
+        }
+    }
 
     /** Tells what is not the same; its text is made only then, as there are many millions of answers. */
     private void same(String call, int a, int b, long got, long want) {
