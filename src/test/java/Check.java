@@ -4,14 +4,27 @@ import java.nio.charset.StandardCharsets;
 /** What the tests share: telling wrong answers, and bringing bytes to a tape. */
 final class Check {
     private static int wrong = 0;
+    private static String sentence = "";
 
     private Check() {
     }
 
+    /** The document's sentence that the next answers are due by; wrong ones are told with it. */
+    static void by(String words) {
+        sentence = "\"" + words + "\": ";
+    }
+
     static void due(String what, long got, long want) {
         if (got != want) {
-            wrong++;
-            System.out.println(what + " answered " + got + ", due is " + want);
+            wrong(what + " answered " + got + ", due is " + want);
+        }
+    }
+
+    /** Tells the first hundred of what is wrong, and counts the rest. */
+    static void wrong(String what) {
+        wrong++;
+        if (wrong <= 100) {
+            System.out.println(sentence + what);
         }
     }
 
