@@ -1,3 +1,5 @@
+import java.util.Arrays;
+import java.util.function.IntToLongFunction;
 import java.util.function.ToLongFunction;
 
 /** Bounds of the calls: promises 1 to 18, the 512 calls, and that a call that throws changes nothing. */
@@ -109,7 +111,7 @@ final class CallBounds {
         run.feed(0x544D0100, 0x3D80FF7F, 0x00010203, 0x04050607, 0x08090A0B);
         Check.due("a feed", run.feed(LEAST, MOST, -1, 0x01234567, 0x89ABCDEF), true);
         byte[] rest = Box.of(Check.row(), Box.NOTHING, Box.ORDER);
-        run.feed(Check.join(new byte[26], java.util.Arrays.copyOfRange(rest, 2, rest.length)));
+        run.feed(Check.join(new byte[26], Arrays.copyOfRange(rest, 2, rest.length)));
         Check.due("read", run.read(true), 0);
         int[] due = {-128, -1, 127, 0, 1, 2, 3, 4, 5, 6, 7, 8, 9, 10, 11, -128, 0, 0, 0, 127, -1, -1, -1, -1, -1, -1, -1,
             0x01, 0x23, 0x45, 0x67, (byte) 0x89, (byte) 0xAB, (byte) 0xCD, (byte) 0xEF, 0};
@@ -756,7 +758,7 @@ final class CallBounds {
     }
 
     /** A house with one call after another, up to its last one. */
-    private static void everyCall(ToLongFunction<TrackerHouse> call, java.util.function.IntToLongFunction due) {
+    private static void everyCall(ToLongFunction<TrackerHouse> call, IntToLongFunction due) {
         Run run = Run.of("order 0;");
         int i = 0;
         while (run.calls() < Run.MOST_CALLS) {

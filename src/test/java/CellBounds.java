@@ -306,7 +306,6 @@ final class CellBounds {
         run.cellsAre("of 15", 3, 7, 8, 9);
         Check.due("kind", run.instrument(3, 0), 1);
         Check.due("the least with them", run.instrument(15, 6), 3);
-        byte[] none = Check.row(0);
         byte[] wave = wave(0, 1, 2);
         for (int a : new int[] {-1, 16, 17, 255, 256, MOST, LEAST}) {
             run = Run.played(Box.of(wave, Box.rows(Box.note(-1, 0, 22, a)), Box.ORDER), 1);
@@ -319,7 +318,7 @@ final class CellBounds {
         Check.due("it may be missing", run.instrument(0, 0), -1);
         Check.due("it may be missing", run.cell(0, 0), Check.NO_CELL);
         run.eventsAre("it may be missing");
-        run = Run.played(Box.of(none, Box.rows(Box.note(-1, 0, 22, 15)), Box.ORDER), 1);
+        run = Run.played(Box.of(Box.NOTHING, Box.rows(Box.note(-1, 0, 22, 15)), Box.ORDER), 1);
         run.eventsAre("both missing");
         run = Run.played(song(two, "-1 0 lend 0"), 1);
         run.cellsAre("its own", 0, 1, 2);
