@@ -122,6 +122,8 @@ final class ContainerBounds {
             Check.due("no truth behind the last one", run.gate(0, size), -1);
             byte[] last = new byte[eights];
             last[eights - 1] = (byte) (1 << unused);
+            same(size + " truths, the last of which is", Box.instrument(Check.row(2, size), last));
+            same(size + " truths that are not", Box.instrument(Check.row(2, size), new byte[eights]));
             run = Run.of(Box.instrument(Check.row(2, size), last));
             for (int i = 0; i < size; i++) {
                 Check.due("truth " + i + " of " + size, run.gate(0, i), i == size - 1 ? 1 : 0);
